@@ -90,6 +90,13 @@ public final class ChannelsTest {
         Check.row(x, 1, 0, 5, 1);
         Check.row(x, 1, 1, 4, 1);
         check.due("16 the first change, ahead NOT KNOWN", x.act(0, 1, 0, 0), 5);
+        x.cut(1, 1, 0);
+        x.change(1, 1, 5, 1);
+        check.due("16 valid at the edge is too late", x.act(0, 1, -1, 0), 0);
+        x.cut(1, 1, 0);
+        x.change(1, 1, 4, 1);
+        x.change(1, 1, 5, 0);
+        check.due("16 valid at the TICK ahead is enough", x.act(0, 1, -1, 0), 1);
         x.rule(1, 1);
         x.cut(1, 1, 0);
         check.due("16 a valid that is NOT KNOWN is not 1, loose or not", x.act(0, 1, -1, 0), 0);

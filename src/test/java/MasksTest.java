@@ -95,6 +95,13 @@ public final class MasksTest {
         check.due("9 BAD ahead of FULL", x.mask(0, 1, 1), WavePairs.BAD);
         check.due("10 BAD ahead of FULL", x.maskWhile(0, 1, 257), WavePairs.BAD);
         check.due("9 still ten", x.count(1), 10);
+        WavePairs y = oneLongDifference();
+        for (int i = 0; i < 10; i++) {
+            y.mask(4, 98 - 9 * i, 99 - 9 * i);
+        }
+        check.due("9 all ten of one signal count", y.differences(), 11);
+        span("9 the last told", y, 0, 10, 17);
+        span("9 the first told", y, 10, 99, 100);
     }
 
     private static void noMasks() {

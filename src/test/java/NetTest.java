@@ -163,5 +163,11 @@ public final class NetTest {
         x.change(1, 0, 5, 1);
         check.due("20 from NOT KNOWN and from 2", x.guilty(5), 2);
         check.due("20 ahead of it", x.guilty(4), WavePairs.NONE);
+        x.cut(0, 0, 0);
+        x.cut(1, 0, 0);
+        x.change(0, 0, 1, 1);
+        x.change(1, 0, 1, 1);
+        check.due("20 the first change, ahead NOT KNOWN", x.guilty(1), 2);
+        check.due("20 ahead of the first change", x.guilty(0), WavePairs.NONE);
     }
 }
