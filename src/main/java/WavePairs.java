@@ -367,7 +367,8 @@ public final class WavePairs {
             return BAD;
         }
         int was = gates[signal].kind;
-        gates[signal].tell(kind, a, b);
+        // A b that is not looked at may be any number: only signals are kept.
+        gates[signal].tell(kind, a, kind > NOT_GATE ? b : a);
         return was;
     }
 
