@@ -360,10 +360,14 @@ public final class WavePairs {
     // ---- the net
 
     public int gate(int signal, int kind, int a, int b) {
-        if (isNoSignal(signal) || outside(kind, NO_GATE, STORE_GATE) || isNoInput(signal, a)) {
+        if (isNoSignal(signal) || outside(kind, NO_GATE, STORE_GATE) || isNoSignal(a)) {
             return BAD;
         }
-        if (kind > NOT_GATE && isNoInput(signal, b)) {
+        // A signal that becomes no gate has no inputs, so it can't be one of itself.
+        if (kind != NO_GATE && a == signal) {
+            return BAD;
+        }
+        if (kind > NOT_GATE && (isNoSignal(b) || b == signal)) {
             return BAD;
         }
         int was = gates[signal].kind;
@@ -383,10 +387,6 @@ public final class WavePairs {
             }
         }
         return NONE;
-    }
-
-    private static boolean isNoInput(int signal, int input) {
-        return isNoSignal(input) || input == signal;
     }
 
     private boolean inputsAgree(Gate gate, int tick) {

@@ -27,7 +27,7 @@ public final class ChangesTest {
         for (int signal = 0; signal < 12; signal++) {
             check.due("1 name", x.call(signal, 0, 0), signal);
             check.due("1 group", x.call(signal, 1, 0), 0);
-            check.due("1 gate", x.gate(signal, 0, signal == 0 ? 1 : 0, 0), 0);
+            check.due("1 gate", x.gate(signal, 0, signal, signal), 0);
         }
         for (int group = 0; group < 4; group++) {
             check.due("1 shift", x.shift(group, 0), 0);

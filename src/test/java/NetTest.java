@@ -4,6 +4,7 @@ public final class NetTest {
 
     public static void main(String[] args) {
         gate();
+        noneOfItself();
         guiltyByKinds();
         guiltyOrder();
         loose();
@@ -32,6 +33,7 @@ public final class NetTest {
             }
         }
         check.due("19 BAD a, kind 0", x.gate(5, 0, 12, 1), WavePairs.BAD);
+        check.due("19 BAD a below, kind 0", x.gate(5, 0, -1, 1), WavePairs.BAD);
         check.due("19 refusals leave it", x.gate(5, 1, 0, 5), 6);
         check.due("19 b is not looked at for 1", x.gate(5, 1, 0, 99), 1);
         check.due("19 one gate", x.count(3), 1);
@@ -40,6 +42,26 @@ public final class NetTest {
         check.due("19 a and b may be one", x.gate(5, 2, 4, 4), 0);
         check.due("19 in a ring", x.gate(4, 2, 5, 5), 0);
         check.due("20 of a ring none", x.guilty(0), WavePairs.NONE);
+    }
+
+    /** Kind 0 is a GATE of nothing, so its own number is as good as another one. */
+    private static void noneOfItself() {
+        for (int signal = 0; signal < 12; signal++) {
+            WavePairs x = new WavePairs();
+            int other = (signal + 1) % 12;
+            check.due("19 none, a its own number", x.gate(signal, 0, signal, other), 0);
+            check.due("19 none, a and b its own number", x.gate(signal, 0, signal, signal), 0);
+            check.due("19 still no gate", x.count(3), 0);
+            for (int kind = 1; kind <= 6; kind++) {
+                check.due("19 none was told", x.gate(signal, kind, other, other), 0);
+                check.due("19 a gate", x.count(3), 1);
+                check.due("19 none, by its own number", x.gate(signal, 0, signal, signal), kind);
+                check.due("19 a gate no more", x.count(3), 0);
+                check.due("19 of itself still", x.gate(signal, kind, signal, other), WavePairs.BAD);
+            }
+            Check.row(x, 0, signal, 5, 1);
+            check.due("20 no gate, none guilty", x.guilty(5), WavePairs.NONE);
+        }
     }
 
     private static void guiltyByKinds() {

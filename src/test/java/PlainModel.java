@@ -318,7 +318,7 @@ final class PlainModel {
     }
 
     int gate(int signal, int kind, int a, int b) {
-        if (!isSignal(signal) || !in(kind, 0, 6) || !isSignal(a) || a == signal) {
+        if (!isSignal(signal) || !in(kind, 0, 6) || !isSignal(a) || kind > 0 && a == signal) {
             return -1;
         }
         if (kind > 1 && (!isSignal(b) || b == signal)) {
