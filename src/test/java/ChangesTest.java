@@ -8,7 +8,10 @@ public final class ChangesTest {
         changeRefuses();
         changes();
         changesRefuse();
+        changesToTheLastTick();
+        changesBehindACut();
         cut();
+        cutAtTicks();
         value();
         check.end();
     }
@@ -122,6 +125,62 @@ public final class ChangesTest {
         check.due("3 BAD ahead of FULL", x.changes(1, 0, 3, Check.packed(1, 1, 1, 1, 0, 1)), WavePairs.BAD);
         check.due("3 just fits", x.changes(1, 0, 2, Check.packed(1, 1, 1, 1)), 50);
         check.due("3 FULL", x.changes(1, 0, 1, fine), WavePairs.FULL);
+    }
+
+    private static void changesToTheLastTick() {
+        for (int n = 1; n <= 4; n++) {
+            long v = Check.packed(java.util.Arrays.copyOf(new int[] {1, 1, 1, 2, 1, 3, 1, 4}, 2 * n));
+            WavePairs x = new WavePairs();
+            x.change(0, 0, 3999 - n, 9);
+            check.due("3 the last of " + n + " at TICK 3999", x.changes(0, 0, n, v), n + 1);
+            check.due("3 its value", x.value(0, 0, 3999), n);
+            check.due("3 the one ahead of it", x.value(0, 0, 3998), n == 1 ? 9 : n - 1);
+            x.change(1, 0, 4000 - n, 9);
+            check.due("3 the last of " + n + " at TICK 4000", x.changes(1, 0, n, v), WavePairs.BAD);
+            check.due("3 none is put", x.value(1, 0, 3999), 9);
+            x.cut(1, 0, 0);
+            x.change(1, 0, 3999, 9);
+            check.due("3 the first of " + n + " at TICK 4000", x.changes(1, 0, n, v), WavePairs.BAD);
+            check.due("3 nothing changes", x.count(0), n + 2);
+        }
+        WavePairs y = new WavePairs();
+        y.change(0, 0, 3872, 9);
+        check.due("3 127 TICKS more to 3999", y.changes(0, 0, 1, Check.packed(127, 8)), 2);
+        y.change(1, 0, 3873, 9);
+        check.due("3 127 TICKS more to 4000", y.changes(1, 0, 1, Check.packed(127, 8)), WavePairs.BAD);
+        check.due("3 126 TICKS more to 3999", y.changes(1, 0, 1, Check.packed(126, 8)), 2);
+    }
+
+    /** "TICKS more than the latest CHANGE; at first more than -1": cut makes an earlier one the latest. */
+    private static void changesBehindACut() {
+        WavePairs x = new WavePairs();
+        Check.row(x, 1, 4, 10, 1, 20, 2);
+        x.cut(1, 4, 20);
+        check.due("3 more than the one left", x.changes(1, 4, 1, Check.packed(3, 5)), 2);
+        check.due("3 ahead of it", x.value(1, 4, 12), 1);
+        check.due("3 at it", x.value(1, 4, 13), 5);
+        x.cut(1, 4, 0);
+        check.due("3 more than -1 again", x.changes(1, 4, 2, Check.packed(1, 6, 1, 7)), 2);
+        check.due("3 TICK 0", x.value(1, 4, 0), 6);
+        check.due("3 TICK 1", x.value(1, 4, 1), 7);
+        check.due("3 each RUN for itself", x.changes(0, 4, 1, Check.packed(1, 8)), 1);
+        check.due("3 TICK 0 there", x.value(0, 4, 0), 8);
+    }
+
+    /** "from a TICK on": a CHANGE at that TICK goes, one at the TICK ahead stays. */
+    private static void cutAtTicks() {
+        int[][] tickAndGone = {{0, 5}, {1, 4}, {2, 3}, {9, 3}, {10, 3}, {11, 2}, {3998, 2}, {3999, 1}};
+        for (int[] c : tickAndGone) {
+            WavePairs x = new WavePairs();
+            Check.row(x, 0, 11, 0, 1, 1, 2, 10, 3, 3998, 4, 3999, 5);
+            Check.row(x, 0, 10, 3999, 6);
+            check.due("4 from " + c[0], x.cut(0, 11, c[0]), c[1]);
+            check.due("4 what is left", x.count(0), 6 - c[1]);
+            check.due("4 none from there on any more", x.cut(0, 11, c[0]), 0);
+            check.due("4 value then", x.value(0, 11, 3999), c[1] == 5 ? 256 : 5 - c[1]);
+            check.due("4 another signal stays", x.value(0, 10, 3999), 6);
+            check.due("4 that TICK is free", x.change(0, 11, c[0], 7), 6 - c[1]);
+        }
     }
 
     private static void cut() {

@@ -6,6 +6,10 @@ public final class ChannelsTest {
         channel();
         acts();
         edgesOfClocks();
+        firstTicks();
+        atTheTickAhead();
+        dataNotKnown();
+        toldAnew();
         names();
         unlike();
         check.end();
@@ -102,6 +106,73 @@ public final class ChannelsTest {
         check.due("16 a valid that is NOT KNOWN is not 1, loose or not", x.act(0, 1, -1, 0), 0);
     }
 
+    /** "(at TICK 0: none)": the first edge that there can be is at TICK 1, by what was at TICK 0. */
+    private static void firstTicks() {
+        for (int run = 0; run < 2; run++) {
+            WavePairs x = new WavePairs();
+            Check.row(x, run, 0, 0, 1);
+            Check.row(x, run, 1, 0, 1);
+            Check.row(x, run, 3, 0, 9, 1, 8);
+            x.channel(0, 0, 1, 1, 3);
+            check.due("16 none at TICK 0", x.act(0, run, -1, 0), 0);
+            check.due("17 none at TICK 0", x.unlike(0), WavePairs.NONE);
+            x.cut(run, 0, 0);
+            x.change(run, 0, 1, 1);
+            check.due("16 one at TICK 1", x.act(0, run, -1, 0), 1);
+            check.due("16 at TICK 1", x.act(0, run, 0, 0), 1);
+            check.due("16 the VALUE at TICK 0", x.act(0, run, 0, 1), 9);
+            check.due("17 the other RUN has none", x.unlike(0), 0);
+            x.rule(0, 1);
+            check.due("16 END 1: none", x.act(0, run, -1, 0), 0);
+        }
+    }
+
+    /** "valid and ready had 1 at the TICK ahead": each of them, at that TICK and at no other. */
+    private static void atTheTickAhead() {
+        for (int late = 1; late <= 2; late++) {
+            WavePairs x = new WavePairs();
+            Check.row(x, 0, 0, 10, 1);
+            Check.row(x, 0, 3 - late, 0, 1);
+            x.channel(2, 0, 1, 2, 3);
+            int[][] fromUpToActs = {{9, 10, 1}, {10, 11, 0}, {8, 9, 0}, {9, 4000, 1}, {0, 9, 0}, {0, 10, 1}};
+            for (int[] f : fromUpToActs) {
+                x.change(0, late, f[0], 1);
+                if (f[1] < 4000) {
+                    x.change(0, late, f[1], 0);
+                }
+                check.due("16 of " + late + " 1 from " + f[0] + " to " + f[1], x.act(2, 0, -1, 0), f[2]);
+                x.cut(0, late, 0);
+            }
+            x.change(0, late, 9, 2);
+            check.due("16 of " + late + " another VALUE than 1", x.act(2, 0, -1, 0), 0);
+            x.cut(0, late, 0);
+            x.change(0, late, 0, 255);
+            check.due("16 of " + late + " another VALUE than 1", x.act(2, 0, -1, 0), 0);
+        }
+    }
+
+    private static void dataNotKnown() {
+        WavePairs x = told();
+        x.cut(0, 3, 0);
+        check.due("16 data NOT KNOWN", x.act(0, 0, 0, 1), 256);
+        check.due("16 it is an ACT still", x.act(0, 0, -1, 1), 2);
+        check.due("17 against a KNOWN one", x.unlike(0), 0);
+        x.cut(1, 3, 0);
+        check.due("17 both NOT KNOWN", x.unlike(0), WavePairs.NONE);
+    }
+
+    private static void toldAnew() {
+        WavePairs x = told();
+        check.due("15 each CHANNEL for itself", x.channel(3, 0, 1, 1, 3), 0);
+        check.due("16 without ready there are three", x.act(3, 0, -1, 0), 3);
+        check.due("16 the other stays", x.act(0, 0, -1, 0), 2);
+        check.due("15 told anew", x.channel(0, 0, 2, 2, 1), 0);
+        check.due("16 by its new SIGNALS", x.act(0, 0, -1, 0), 3);
+        check.due("16 their data", x.act(0, 0, 0, 1), 1);
+        check.due("15 one SIGNAL for all", x.channel(0, 0, 0, 0, 0), 0);
+        check.due("16 a clock that had 1 has no edge", x.act(0, 0, -1, 0), 0);
+    }
+
     private static void names() {
         WavePairs x = told();
         x.call(3, 0, 5);
@@ -138,5 +209,12 @@ public final class ChannelsTest {
         check.due("17 RUN 1 has no more", x.unlike(0), 1);
         x.cut(0, 0, 20);
         check.due("17 RUN 0 has none", x.unlike(0), 0);
+        x.cut(1, 0, 20);
+        check.due("17 both have none", x.unlike(0), WavePairs.NONE);
+        WavePairs y = told();
+        y.cut(0, 0, 30);
+        check.due("17 RUN 0 has no more", y.unlike(0), 1);
+        y.cut(0, 3, 0);
+        check.due("17 the first of two", y.unlike(0), 0);
     }
 }

@@ -4,6 +4,8 @@ public final class DifferencesTest {
 
     public static void main(String[] args) {
         spans();
+        firstAndLastTick();
+        longRows();
         bySignals();
         shifts();
         loose();
@@ -37,6 +39,38 @@ public final class DifferencesTest {
         x.rule(0, 10);
         check.due("12 END cuts all away", x.differences(), 0);
         check.due("14 NONE", x.first(), WavePairs.NONE);
+    }
+
+    private static void firstAndLastTick() {
+        WavePairs x = new WavePairs();
+        x.rule(0, 4000);
+        Check.row(x, 0, 7, 0, 1, 1, 256, 3999, 2);
+        check.due("12 two", x.differences(), 2);
+        one("13 TICK 0", x, 0, 7, 0, 1);
+        one("13 TICK 3999", x, 1, 7, 3999, 4000);
+        check.due("13 no third", x.difference(2, 1), WavePairs.NONE);
+        check.due("14 TICK 0", x.first(), 0);
+        x.cut(0, 7, 0);
+        x.change(0, 7, 3999, 2);
+        check.due("14 TICK 3999", x.first(), 3999);
+        x.rule(0, 3999);
+        check.due("14 NONE ahead of END", x.first(), WavePairs.NONE);
+        check.due("12 none ahead of END", x.differences(), 0);
+    }
+
+    /** Rows that are FULL and change at no TICK both, but to VALUES that AGREE: only the last CHANGE tells. */
+    private static void longRows() {
+        for (int late = 0; late < 2; late++) {
+            WavePairs x = new WavePairs();
+            for (int i = 0; i < 50; i++) {
+                x.change(0, 5, 1 + 2 * i, i == 49 && late == 0 ? 7 : 256);
+                x.change(1, 5, 2 + 2 * i, i == 49 && late == 1 ? 7 : 256);
+            }
+            check.due("12 one", x.differences(), 1);
+            one("13 from the last CHANGE on", x, 0, 5, 99 + late, 1000);
+            check.due("14 the last CHANGE", x.first(), 99 + late);
+            check.due("21 unlike by the last CHANGE", x.alike(5), 4095 & ~(1 << 5) & (late == 0 ? 0 : 4095));
+        }
     }
 
     private static void bySignals() {

@@ -6,6 +6,7 @@ public final class FitTest {
         refusals();
         leastSize();
         ends();
+        oneTickAtLeast();
         ofAllSignals();
         masks();
         check.end();
@@ -81,6 +82,33 @@ public final class FitTest {
         Check.row(z, 0, 0, 0, 1, 9, 3);
         Check.row(z, 1, 0, 0, 3, 1, 4);
         check.due("18 the other end", z.fit(1), -9);
+    }
+
+    /** "(at least one such TICK)": by 50 there is one if END is 51, and none if END is 50. */
+    private static void oneTickAtLeast() {
+        WavePairs x = new WavePairs();
+        Check.row(x, 0, 0, 0, 1, 1, 2);
+        Check.row(x, 1, 0, 0, 3, 50, 1);
+        x.rule(0, 51);
+        check.due("18 50, one TICK", x.fit(0), 50);
+        x.rule(0, 50);
+        check.due("18 50, no TICK", x.fit(0), -1004);
+        WavePairs y = new WavePairs();
+        Check.row(y, 0, 0, 0, 3, 50, 1);
+        Check.row(y, 1, 0, 0, 1, 1, 2);
+        y.rule(0, 51);
+        check.due("18 -50, one TICK", y.fit(0), -50);
+        y.rule(0, 50);
+        check.due("18 -50, no TICK", y.fit(0), -1004);
+        WavePairs z = new WavePairs();
+        z.rule(0, 1);
+        check.due("18 END 1, alike", z.fit(0), 0);
+        z.change(1, 11, 0, 1);
+        check.due("18 END 1, unlike", z.fit(0), -1004);
+        z.rule(0, 2);
+        check.due("18 END 2: by -1 TICK 1 against 0, by 1 TICK 0 against 1", z.fit(0), -1004);
+        z.change(0, 11, 1, 1);
+        check.due("18 END 2: by -1", z.fit(0), -1);
     }
 
     private static void ofAllSignals() {

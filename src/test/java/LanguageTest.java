@@ -55,6 +55,8 @@ public final class LanguageTest {
         check.yes("the document's methods " + found, found.equals(new TreeSet<>(Arrays.asList(FACE))));
         for (Method m : c.getDeclaredMethods()) {
             check.yes(m + " has its own name", Modifier.isPublic(m.getModifiers()) || !names.contains(m.getName()));
+            // The document's face gives holds eight.
+            check.yes(m + " takes seven at most", m.getParameterCount() <= 7 || m.getName().equals("holds"));
         }
         Set<String> constants = new TreeSet<>();
         for (Field f : c.getDeclaredFields()) {

@@ -10,6 +10,8 @@ public final class NetTest {
         loose();
         store();
         storeEdges();
+        storeFirstTicks();
+        firstAndLastTick();
         check.end();
     }
 
@@ -191,5 +193,43 @@ public final class NetTest {
         x.change(1, 0, 1, 1);
         check.due("20 the first change, ahead NOT KNOWN", x.guilty(1), 2);
         check.due("20 ahead of the first change", x.guilty(0), WavePairs.NONE);
+    }
+
+    /** The earliest edge is at TICK 1: a is held against a at TICK 0. */
+    private static void storeFirstTicks() {
+        WavePairs x = new WavePairs();
+        for (int run = 0; run < 2; run++) {
+            Check.row(x, run, 0, 1, 1);
+            Check.row(x, run, 1, 0, 5, 1, 6 + run);
+            Check.row(x, run, 2, 1, 7 + run);
+        }
+        x.gate(2, 6, 1, 0);
+        check.due("20 a at TICK 0 agrees", x.guilty(1), 2);
+        x.cut(1, 1, 0);
+        x.change(1, 1, 1, 6);
+        check.due("20 a at TICK 0 does not", x.guilty(1), WavePairs.NONE);
+        x.rule(1, 1);
+        check.due("20 loose, it does", x.guilty(1), 2);
+    }
+
+    private static void firstAndLastTick() {
+        WavePairs x = new WavePairs();
+        x.rule(0, 4000);
+        Check.row(x, 0, 0, 0, 1, 1, 256, 3999, 1);
+        x.gate(0, 2, 1, 11);
+        check.due("20 TICK 0", x.guilty(0), 0);
+        check.due("20 TICK 1", x.guilty(1), WavePairs.NONE);
+        check.due("20 TICK 3998", x.guilty(3998), WavePairs.NONE);
+        check.due("20 TICK 3999", x.guilty(3999), 0);
+        check.due("20 TICK 4000", x.guilty(4000), WavePairs.BAD);
+        x.rule(0, 3999);
+        check.due("20 at END", x.guilty(3999), WavePairs.BAD);
+        check.due("20 ahead of END", x.guilty(3998), WavePairs.NONE);
+        WavePairs y = new WavePairs();
+        Check.row(y, 1, 11, 0, 1);
+        y.gate(11, 5, 0, 1);
+        check.due("20 the last SIGNAL", y.guilty(0), 11);
+        y.gate(11, 0, 11, 11);
+        check.due("20 no GATE any more", y.guilty(0), WavePairs.NONE);
     }
 }
